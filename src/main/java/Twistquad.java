@@ -628,6 +628,7 @@ public final class Twistquad {
         }
 
         int valueToPut(long own, long other, int left) {
+            // A full board is a draw; the other bound, which no call reaches, guards the depth.
             if (left <= 0 || left > MOST_EMPTY_TO_SOLVE) {
                 return EVEN;
             }
@@ -707,10 +708,7 @@ public final class Twistquad {
             if (ownHas != otherHas) {
                 return ownHas ? WIN : LOSS;
             }
-            if (ownHas || left == 0) {
-                return EVEN;
-            }
-            return -valueToPut(otherTurned, ownTurned, left);
+            return ownHas ? EVEN : -valueToPut(otherTurned, ownTurned, left);
         }
     }
 }
