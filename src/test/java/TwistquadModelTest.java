@@ -83,6 +83,15 @@ public final class TwistquadModelTest {
         }
     }
 
+    /** A number of a range, which may be empty, or at times one beyond it on either side. */
+    private static int oftenWithin(Random random, int least, int greatest) {
+        if (greatest >= least && random.nextInt(12) != 0) {
+            return least + random.nextInt(greatest - least + 1);
+        }
+        int[] beyond = Checks.beyond(least, greatest);
+        return beyond[random.nextInt(beyond.length)];
+    }
+
     // ---- a game and its model
 
     private static final class Pair {
@@ -113,13 +122,13 @@ public final class TwistquadModelTest {
                 story.append("undo; ");
                 check("undo", model.undo(), () -> game.undo() ? 1 : 0);
             } else if (model.mustTurn == (kind != 1)) {
-                int quarter = random.nextInt(20) == 0 ? random.nextInt(9) - 3 : random.nextInt(4);
-                int way = random.nextInt(20) == 0 ? random.nextInt(6) - 2 : random.nextInt(2);
+                int quarter = oftenWithin(random, 0, 3);
+                int way = oftenWithin(random, 0, 1);
                 story.append("turn ").append(quarter).append(' ').append(way).append("; ");
                 check("turn", model.turn(quarter, way), () -> game.turn(quarter, way));
             } else {
                 int cell = random.nextInt(10) == 0
-                        ? random.nextInt(80) - 30 : model.emptyCell(random.nextInt(36));
+                        ? oftenWithin(random, 0, 35) : model.emptyCell(random.nextInt(36));
                 story.append("put ").append(cell).append("; ");
                 check("put", model.put(cell), () -> game.put(cell));
             }
@@ -170,8 +179,8 @@ public final class TwistquadModelTest {
         }
 
         void compareOne(Random random, int call) {
-            int cell = random.nextInt(38) - 1;
-            int side = random.nextInt(20) == 0 ? random.nextInt(7) - 2 : 1 + random.nextInt(2);
+            int cell = oftenWithin(random, 0, 35);
+            int side = oftenWithin(random, 1, 2);
             switch (call) {
                 case 0 -> check("result", model.result, () -> game.result());
                 case 1 -> check("mover", model.mover(), () -> game.mover());
@@ -194,8 +203,8 @@ public final class TwistquadModelTest {
         }
 
         void compareFoursBehind(Random random, int side) {
-            int quarter = random.nextInt(20) == 0 ? random.nextInt(8) - 2 : random.nextInt(4);
-            int way = random.nextInt(20) == 0 ? random.nextInt(6) - 2 : random.nextInt(2);
+            int quarter = oftenWithin(random, 0, 3);
+            int way = oftenWithin(random, 0, 1);
             check("foursBehind " + side + " " + quarter + " " + way,
                     model.foursBehind(side, quarter, way),
                     () -> game.foursBehind(side, quarter, way));
@@ -203,8 +212,8 @@ public final class TwistquadModelTest {
 
         void compareText(Random random) {
             check("moves", model.texts.size(), () -> game.moves());
-            int move = random.nextInt(model.texts.size() + 2) - 1;
-            int index = random.nextInt(6) - 1;
+            int move = oftenWithin(random, 0, model.texts.size() - 1);
+            int index = oftenWithin(random, 0, 3);
             String text = move >= 0 && move < model.texts.size() ? model.texts.get(move) : "";
             check("textLength " + move, text.isEmpty() ? BOUNDS : text.length(),
                     () -> game.textLength(move));

@@ -14,18 +14,7 @@ import java.util.TreeSet;
  * boards were worked out by hand; what is due on the crowded ones, given as sums of bits, was found by
  * a program of its own, written from the document in another language.
  */
-public final class TwistquadPromisesTest {
-    private static final Class<?> BOUNDS = IndexOutOfBoundsException.class;
-    private static final Class<?> ARGUMENT = IllegalArgumentException.class;
-    private static final Class<?> STATE = IllegalStateException.class;
-
-    private static int checks = 0;
-    private static int wrong = 0;
-
-    private interface Call {
-        long answer();
-    }
-
+public final class TwistquadPromisesTest extends Checks {
     public static void main(String[] args) {
         theFace();
         promise1NewObject();
@@ -52,51 +41,10 @@ public final class TwistquadPromisesTest {
         promise22To24Refusals();
         objectsAreApart();
         callsMakeNoObjects();
-        System.out.println("TwistquadPromisesTest: " + checks + " checks, " + wrong + " wrong");
-        if (wrong != 0) {
-            System.exit(1);
-        }
+        end("TwistquadPromisesTest");
     }
 
     // ---- helpers
-
-    private static void check(String what, long got, long due) {
-        checks++;
-        if (got != due) {
-            wrong++;
-            System.out.println(what + " answered " + got + ", due is " + due);
-        }
-    }
-
-    private static void checkThat(String what, boolean holds) {
-        check(what, holds ? 1 : 0, 1);
-    }
-
-    private static void checkThrows(String what, Class<?> due, Call call) {
-        checks++;
-        Class<?> got = null;
-        try {
-            call.answer();
-        } catch (RuntimeException e) {
-            got = e.getClass();
-        }
-        if (got != due) {
-            wrong++;
-            System.out.println(what + " threw " + got + ", due is " + due);
-        }
-    }
-
-    private static long truth(boolean b) {
-        return b ? 1 : 0;
-    }
-
-    private static long bits(int... cells) {
-        long sum = 0;
-        for (int cell : cells) {
-            sum |= 1L << cell;
-        }
-        return sum;
-    }
 
     private static Twistquad laid(long first, long second) {
         Twistquad game = new Twistquad();
@@ -111,26 +59,8 @@ public final class TwistquadPromisesTest {
             text.append(game.at(cell));
         }
         text.append(' ').append(game.result()).append(game.mover()).append(game.mustTurn());
-        for (int move = 0; move < game.moves(); move++) {
-            text.append(' ').append(textOf(game, move));
-        }
+        text.append(' ').append(Position.record(game));
         return text.toString();
-    }
-
-    private static String textOf(Twistquad game, int move) {
-        StringBuilder text = new StringBuilder();
-        for (int index = 0; index < game.textLength(move); index++) {
-            text.append(game.textAt(move, index));
-        }
-        return text.toString();
-    }
-
-    private static void checkText(String what, String got, String due) {
-        checks++;
-        if (!got.equals(due)) {
-            wrong++;
-            System.out.println(what + " answered " + got + ", due is " + due);
-        }
     }
 
     /** 35 marbles, no line, the cell 35 empty, and the side 2 to move. */
@@ -555,24 +485,24 @@ public final class TwistquadPromisesTest {
         checkThrows("textLength of no move", BOUNDS, () -> game.textLength(0));
         checkThrows("textAt of no move", BOUNDS, () -> game.textAt(0, 0));
         game.put(14);
-        checkText("a marble alone", textOf(game, 0), "c3");
+        checkText("a marble alone", Position.textOf(game, 0), "c3");
         checkThrows("a turn that is not yet made", BOUNDS, () -> game.textAt(0, 2));
         game.turn(0, 0);
-        checkText("its turn", textOf(game, 0), "c30R");
+        checkText("its turn", Position.textOf(game, 0), "c30R");
         game.put(5);
         game.turn(3, 1);
         game.put(30);
         game.turn(1, 1);
         game.put(35);
         game.turn(2, 0);
-        checkText("the first move stays", textOf(game, 0), "c30R");
-        checkText("the second", textOf(game, 1), "f13L");
-        checkText("the third", textOf(game, 2), "a61L");
-        checkText("the fourth", textOf(game, 3), "f62R");
+        checkText("the first move stays", Position.textOf(game, 0), "c30R");
+        checkText("the second", Position.textOf(game, 1), "f13L");
+        checkText("the third", Position.textOf(game, 2), "a61L");
+        checkText("the fourth", Position.textOf(game, 3), "f62R");
         game.undo();
-        checkText("the turn undone", textOf(game, 3), "f6");
+        checkText("the turn undone", Position.textOf(game, 3), "f6");
         game.turn(2, 1);
-        checkText("another turn", textOf(game, 3), "f62L");
+        checkText("another turn", Position.textOf(game, 3), "f62L");
         check("length 4", game.textLength(3), 4);
         String before = state(game);
         checkThrows("textLength(-1)", BOUNDS, () -> game.textLength(-1));
@@ -588,7 +518,7 @@ public final class TwistquadPromisesTest {
         Twistquad won = laid(bits(0, 1, 2, 3), bits(30, 31, 32, 33));
         won.put(4);
         check("length of a winning marble", won.textLength(0), 2);
-        checkText("a winning marble", textOf(won, 0), "e1");
+        checkText("a winning marble", Position.textOf(won, 0), "e1");
         checkThrows("no turn behind it", BOUNDS, () -> won.textAt(0, 2));
 
         for (int cell = 0; cell < 36; cell++) {
