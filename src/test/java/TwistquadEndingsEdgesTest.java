@@ -616,6 +616,11 @@ public final class TwistquadEndingsEdgesTest extends Checks {
         for (Ending ending : allEndings()) {
             checkUnchanged(ending.position(), question);
         }
+        // With a record of their own: 33 to 35 moves, and one more whose turn is due.
+        for (int moves = 33; moves < 36; moves++) {
+            checkUnchanged(new Position(null, Position.WHOLE_GAME.substring(0, 5 * moves - 1)), question);
+            checkUnchanged(new Position(null, Position.WHOLE_GAME.substring(0, 5 * moves + 2)), question);
+        }
     }
 
     private static void checkBest(Ending[] endings) {
@@ -626,9 +631,11 @@ public final class TwistquadEndingsEdgesTest extends Checks {
 
     private static void checkLowest(Ending ending) {
         Twistquad game = ending.position().game();
+        String cells = Position.picture(game).replace(" ", "");
+        boolean turnAlone = game.mustTurn();
         int best = game.bestMove();
         for (int move = 0; move <= best; move++) {
-            if (game.mustTurn() || game.at(move / 8) == 0) {
+            if (turnAlone || cells.charAt(move / 8) == '.') {
                 Twistquad played = ending.position().game();
                 long got = outcome(played, move);
                 if (move == best) {

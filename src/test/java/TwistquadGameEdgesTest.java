@@ -675,16 +675,6 @@ public final class TwistquadGameEdgesTest extends Checks {
     // ---- undo
 
     private static void aWholeGameBack() {
-        Twistquad game = new Twistquad();
-        String[] moves = Position.WHOLE_GAME.split(" ");
-        String[] boards = new String[72];
-        for (int move = 0; move < 36; move++) {
-            boards[2 * move] = Position.picture(game);
-            game.put(Position.cellOf(moves[move]));
-            boards[2 * move + 1] = Position.picture(game);
-            game.turn(moves[move].charAt(2) - '0', moves[move].charAt(3) == 'R' ? 0 : 1);
-        }
-        // What an object answers behind its 512th call is free: another one goes back.
         Twistquad back = new Twistquad();
         Position.play(back, Position.WHOLE_GAME);
         for (int step = 71; step >= 0; step--) {
@@ -701,7 +691,9 @@ public final class TwistquadGameEdgesTest extends Checks {
             for (int undone = 71; undone >= step; undone--) {
                 part.undo();
             }
-            checkText("the board before the step " + step, Position.picture(part), boards[step]);
+            String before = Position.WHOLE_GAME.substring(0, step / 2 * 5 + step % 2 * 2);
+            checkText("the board before the step " + step, Position.picture(part),
+                    Position.picture(new Position(null, before).game()));
         }
     }
 

@@ -160,16 +160,12 @@ public final class TwistquadLinesEdgesTest extends Checks {
             check("the side 1 wins by it: no four is left", game.foursBehind(1, 0, 0), 1);
             check("the other way", game.foursBehind(1, 0, 1), 0);
             Twistquad corners = Position.laid(".1.11. 1.1... .1.... ....2. ...2.2 .22.2.");
-            for (int turn = 0; turn < 8; turn++) {
-                compareBehind(corners, turn);
-            }
+            compareBehind(corners);
         });
         sentence("17: .. whoever is to move, and whether a quarter has to be turned or not", () -> {
             for (Position position : Position.all()) {
                 Twistquad game = position.game();
-                for (int turn = 0; turn < 8; turn++) {
-                    compareBehind(game, turn);
-                }
+                compareBehind(game);
                 checkSame("foursBehind changed nothing in " + position,
                         Position.answers(game), Position.answers(position.game()));
             }
@@ -359,12 +355,17 @@ public final class TwistquadLinesEdgesTest extends Checks {
         return Geometry.places(own, 4, other, 0);
     }
 
-    private static void compareBehind(Twistquad game, int turn) {
-        long first = Geometry.behindTurn(Position.sum(game, 1), turn / 2, turn % 2);
-        long second = Geometry.behindTurn(Position.sum(game, 2), turn / 2, turn % 2);
-        String what = "the turn " + turn + " of " + Position.picture(game);
-        check(what + ", the side 1", game.foursBehind(1, turn / 2, turn % 2), foursOf(first, second));
-        check(what + ", the side 2", game.foursBehind(2, turn / 2, turn % 2), foursOf(second, first));
+    private static void compareBehind(Twistquad game) {
+        String picture = Position.picture(game);
+        for (int turn = 0; turn < 8; turn++) {
+            int quarter = turn / 2;
+            int way = turn % 2;
+            long first = Geometry.behindTurn(Position.sum(picture, 1), quarter, way);
+            long second = Geometry.behindTurn(Position.sum(picture, 2), quarter, way);
+            String what = "the turn " + turn + " of " + picture;
+            check(what + ", the side 1", game.foursBehind(1, quarter, way), foursOf(first, second));
+            check(what + ", the side 2", game.foursBehind(2, quarter, way), foursOf(second, first));
+        }
     }
 
     private static void refuse(Class<?> due, Position position, int side, int quarter, int way) {

@@ -835,12 +835,12 @@ public final class TwistquadPromisesTest extends Checks {
         long once = useAll(game);
         long before = threads.getThreadAllocatedBytes(Thread.currentThread().getId());
         long sum = 0;
-        for (int round = 0; round < 50; round++) {
+        for (int round = 0; round < 30; round++) {
             sum += useAll(game);
         }
         long made = threads.getThreadAllocatedBytes(Thread.currentThread().getId()) - before;
         checkThat("calls make no objects, but made " + made + " bytes", made < 100_000);
-        check("each round answers the same", sum, 50 * once);
+        check("each round answers the same", sum, 30 * once);
     }
 
     private static long useAll(Twistquad game) {
