@@ -603,13 +603,15 @@ public final class Twistquad {
         }
 
         private static int slotOf(long form) {
-            return (int) (form * SPREAD >>> 64 - SLOT_BITS) & SLOTS - 1;
+            int slot = (int) (form * SPREAD >>> 64 - SLOT_BITS);
+            return slot >= 0 && slot < SLOTS ? slot : 0;
         }
     }
 
     /**
      * Solves endings. Values are told for the side that owns the marbles own; left is the number of
-     * empty cells, which falls with each marble and so bounds the depth.
+     * empty cells, which falls with each marble and so bounds the depth. The methods that call one
+     * another are private, as the rule 8 of the language wants it.
      */
     private static final class Solver {
         private static final int WIN = 1;
@@ -627,7 +629,7 @@ public final class Twistquad {
             this.table = table;
         }
 
-        int valueToPut(long own, long other, int left) {
+        private int valueToPut(long own, long other, int left) {
             // A full board is a draw; the other bound, which no call reaches, guards the depth.
             if (left <= 0 || left > MOST_EMPTY_TO_SOLVE) {
                 return EVEN;
@@ -647,7 +649,7 @@ public final class Twistquad {
             return value;
         }
 
-        int valueToTurn(long own, long other, int left) {
+        private int valueToTurn(long own, long other, int left) {
             int best = LOSS;
             for (int turn = 0; turn < TURNS && best < WIN; turn++) {
                 best = Math.max(best, valueBehindTurn(own, other, turn, left));

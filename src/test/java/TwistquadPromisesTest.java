@@ -39,6 +39,7 @@ public final class TwistquadPromisesTest extends Checks {
         promise21WinningTurns();
         promise22To24Endings();
         promise22To24Refusals();
+        theRunOfTheReadme();
         objectsAreApart();
         callsMakeNoObjects();
         end("TwistquadPromisesTest");
@@ -809,6 +810,26 @@ public final class TwistquadPromisesTest extends Checks {
     }
 
     // ---- what no single promise tells
+
+    /** README.md says what each of these calls answers. */
+    private static void theRunOfTheReadme() {
+        Twistquad game = new Twistquad();
+        check("README: put(14)", game.put(14), Twistquad.OPEN);
+        checkThat("README: mustTurn", game.mustTurn());
+        check("README: turn(0, 0)", game.turn(0, 0), Twistquad.OPEN);
+        check("README: at(12)", game.at(12), 1);
+        check("README: mover", game.mover(), 2);
+        check("README: moves", game.moves(), 1);
+        check("README: textLength(0)", game.textLength(0), 4);
+        checkText("README: the text of the move 0", Position.record(game), "c30R");
+        check("README: textAt(0, 3)", game.textAt(0, 3), 'R');
+        checkThat("README: undo", game.undo());
+        check("README: lay", game.lay(13743829811L, 54908472524L), Twistquad.OPEN);
+        check("README: value", game.value(), 1);
+        check("README: bestMove", game.bestMove(), 209);
+        check("README: put(26)", game.put(26), Twistquad.OPEN);
+        check("README: turn(0, 1)", game.turn(0, 1), Twistquad.FIRST);
+    }
 
     private static void objectsAreApart() {
         Twistquad one = new Twistquad();
